@@ -66,6 +66,11 @@ public final class Promise03LeaveTest {
             leave 1 2 = done; waiting 2 0 = 0; waiting 2 1 = 0; waiting 2 3 = 1; first 2 3 = 100
             want 1 2 = done; about 1 2 = 2
             """);
+        Run.of("token, one who was in the row before comes into it again", """
+            want 1 0 = done; want 1 1 = done; deliver 1 0 = 1; leave 1 0 = done; deliver 0 1 = 1; leave 1 1 = done
+            want 1 0 = done; deliver 0 1 = 1; deliver 1 0 = 1; about 1 0 = 2
+            want 1 1 = done; deliver 1 0 = 1; leave 1 0 = done; first 0 1 = 110
+            """);
         Run.of("token, what is done is not served again", """
             want 1 1 = done; deliver 1 0 = 1; deliver 0 1 = 1; leave 1 1 = done
             want 1 2 = done; deliver 2 1 = 1; deliver 1 2 = 1; about 1 2 = 1; deliver 1 2 = 1; about 1 2 = 2

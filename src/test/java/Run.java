@@ -1,17 +1,30 @@
+import java.util.ArrayList;
+import java.util.List;
 import java.util.NoSuchElementException;
 
 /**
  * A run of calls on a new object, written as text: "want 0 2 = done; first 2 1 = 0; leave 0 2 = throws.IllegalStateException".
  * Calls stand on lines of their own or behind a semicolon; a line that begins with # is a remark.
+ * No object gets more than the 512 calls that the document promises anything about.
  */
 final class Run {
+    static final int MOST_CALLS = 512;
+    private static final List<String> LOOKS = looks();
+    /** A single fault can be met by a great many calls. */
+    private static final int MOST_LINES = 100;
+
     private static int wrong = 0;
 
     private final String name;
+    private final int id;
+    private final int step;
     private final NodeServices services;
+    private final List<String> made = new ArrayList<>();
 
     Run(String name, int id, int step) {
         this.name = name;
+        this.id = id;
+        this.step = step;
         this.services = new NodeServices(id, step);
     }
 
@@ -22,7 +35,9 @@ final class Run {
     static void check(String what, Object got, Object due) {
         if (!due.equals(got)) {
             wrong++;
-            System.out.println(what + " answered " + got + ", due is " + due);
+            if (wrong <= MOST_LINES) {
+                System.out.println(what + " answered " + got + ", due is " + due);
+            }
         }
     }
 
@@ -33,14 +48,21 @@ final class Run {
         }
     }
 
-    Run calls(String text) {
+    static List<String> rows(String text) {
+        List<String> rows = new ArrayList<>();
         for (String line : text.split("\n")) {
-            if (line.isBlank() || line.strip().startsWith("#")) {
-                continue;
+            if (!line.isBlank() && !line.strip().startsWith("#")) {
+                for (String row : line.split(";")) {
+                    rows.add(row.strip());
+                }
             }
-            for (String row : line.split(";")) {
-                due(row.strip());
-            }
+        }
+        return rows;
+    }
+
+    Run calls(String text) {
+        for (String row : rows(text)) {
+            due(row);
         }
         return this;
     }
@@ -51,17 +73,42 @@ final class Run {
         if (sides.length != 2) {
             throw new IllegalStateException("not a call with its answer: " + row);
         }
-        String call = sides[0].strip();
-        String due = sides[1].strip();
-        String before = due.startsWith("throws.") ? seen() : "";
-        check(name + ": " + call, answer(call), due);
-        if (due.startsWith("throws.")) {
-            check(name + ": what is seen after " + row, seen(), before);
+        check(name + ", call " + (made.size() + 1) + ": " + sides[0], answer(sides[0]), sides[1]);
+        boolean roomToLook = made.size() + LOOKS.size() <= MOST_CALLS;
+        if (sides[1].startsWith("throws.") && roomToLook) {
+            String before = again(made.size() - 1).seen();
+            check(name + ": what is seen behind " + row, again(made.size()).seen(), before);
         }
     }
 
+    /** Another object that has been through the first calls of this one: to look at it takes no call from this one. */
+    Run again(int calls) {
+        Run other = new Run(name, id, step);
+        for (String call : made.subList(0, calls)) {
+            other.answer(call);
+        }
+        return other;
+    }
+
+    /** A model that has been through the first calls of this object. */
+    Model modelOf(int calls) {
+        Model model = new Model(id, step);
+        for (String call : made.subList(0, calls)) {
+            model.answer(call);
+        }
+        return model;
+    }
+
+    int made() {
+        return made.size();
+    }
+
     String answer(String call) {
-        String[] words = call.split(" +");
+        if (made.size() >= MOST_CALLS) {
+            throw new IllegalStateException(name + ": the test makes more than " + MOST_CALLS + " calls");
+        }
+        made.add(call);
+        String[] words = call.split(" ");
         int[] n = new int[words.length - 1];
         for (int i = 0; i < n.length; i++) {
             n[i] = Integer.parseInt(words[i + 1]);
@@ -94,17 +141,28 @@ final class Run {
     /** All that the object shows of itself. */
     String seen() {
         StringBuilder text = new StringBuilder();
+        for (String look : LOOKS) {
+            text.append(look).append(" = ").append(answer(look)).append("; ");
+        }
+        return text.toString();
+    }
+
+    /** The calls that show all of an object. */
+    static List<String> looks() {
+        List<String> looks = new ArrayList<>();
         for (int a = 0; a < 4; a++) {
             for (int b = 0; b < 4; b++) {
                 if (a != b) {
-                    text.append(services.first(a, b)).append('/').append(services.waiting(a, b)).append(' ');
+                    looks.add("first " + a + " " + b);
+                    looks.add("waiting " + a + " " + b);
                 }
             }
             for (int service = 0; service < 5; service++) {
-                text.append(services.about(service, a)).append(':').append(services.more(service, a)).append(' ');
+                looks.add("about " + service + " " + a);
+                looks.add("more " + service + " " + a);
             }
-            text.append(services.count(a)).append('\n');
+            looks.add("count " + a);
         }
-        return text.toString();
+        return looks;
     }
 }

@@ -46,6 +46,12 @@ public final class EdgeChannelTest {
             deliver FROM TO = 4; deliver FROM TO = 4; first FROM TO = -1; deliver FROM TO = throws.NoSuchElementException
             spread FROM TO = done; deliver FROM TO = 4; waiting FROM TO = 0; first FROM TO = -1
             """);
+        of("filled on before it is empty", from, to, """
+            begin FROM = done; spread FROM TO = done; spread FROM TO = done; deliver FROM TO = 4; waiting FROM TO = 1
+            want 0 FROM = done; first FROM TO = 401; waiting FROM TO = 2
+            deliver FROM TO = 4; first FROM TO = 0; spread FROM TO = done; first FROM TO = 1; waiting FROM TO = 2
+            deliver FROM TO = 0; first FROM TO = 400; deliver FROM TO = 4; first FROM TO = -1
+            """);
     }
 
     private static void theOthersStayEmpty(int from, int to) {

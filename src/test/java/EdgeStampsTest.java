@@ -146,12 +146,38 @@ public final class EdgeStampsTest {
             about 0 0 = 2; want 0 1 = done; deliver 1 0 = 0; waiting 0 1 = 0; waiting 0 3 = 0
             leave 0 0 = done; first 0 1 = 10; first 0 2 = -1; first 0 3 = 10
             """);
-        new Run("none is put off then: the next leave sends nothing", 7, 30).calls(zeroIsIn).calls("""
-            want 0 2 = done; deliver 2 0 = 0; leave 0 0 = done; deliver 0 2 = 0
-            deliver 2 1 = 0; deliver 1 2 = 0; deliver 2 3 = 0; deliver 3 2 = 0; about 0 2 = 2; leave 0 2 = done
-            want 0 0 = done
-            deliver 0 1 = 0; deliver 1 0 = 0; deliver 0 2 = 0; deliver 2 0 = 0; deliver 0 3 = 0; deliver 3 0 = 0
-            about 0 0 = 2; count 1 = 18; leave 0 0 = done; count 1 = 18; waiting 0 2 = 0
-            """);
+        for (int node = 0; node < 4; node++) {
+            for (int other = 0; other < 4; other++) {
+                if (node != other) {
+                    nextLeaveSendsNothing(node, other);
+                }
+            }
+        }
+    }
+
+    private static void nextLeaveSendsNothing(int node, int other) {
+        Run run = new Run("none is put off then: " + node + " had put off " + other, 7, 30);
+        run.calls("want 0 " + node + " = done");
+        getAllReplies(run, node);
+        run.calls("want 0 " + other + " = done; deliver " + other + " " + node + " = 0; count 1 = 9");
+        run.calls("leave 0 " + node + " = done; count 1 = 10; first " + node + " " + other + " = 10");
+        run.calls("deliver " + node + " " + other + " = 0");
+        for (int third = 0; third < 4; third++) {
+            if (third != node && third != other) {
+                run.calls("deliver " + other + " " + third + " = 0; deliver " + third + " " + other + " = 0");
+            }
+        }
+        run.calls("about 0 " + other + " = 2; leave 0 " + other + " = done; want 0 " + node + " = done");
+        getAllReplies(run, node);
+        run.calls("count 1 = 18; leave 0 " + node + " = done; count 1 = 18");
+    }
+
+    private static void getAllReplies(Run run, int node) {
+        for (int other = 0; other < 4; other++) {
+            if (other != node) {
+                run.calls("deliver " + node + " " + other + " = 0; deliver " + other + " " + node + " = 0");
+            }
+        }
+        run.calls("about 0 " + node + " = 2");
     }
 }

@@ -31,6 +31,23 @@ public final class EdgeTreeTest {
             want 2 0 = done; want 2 2 = done; deliver 2 0 = 2; waiting 0 2 = 0; more 2 0 = 0; about 2 0 = 2
             leave 2 0 = done; first 0 2 = 210; more 2 0 = 2
             """);
+        Run.of("it isn't in: 1 is, and 0 and 3 must wait", """
+            want 2 1 = done; deliver 1 0 = 2; deliver 0 1 = 2; about 2 1 = 2; want 2 0 = done; want 2 3 = done
+            deliver 0 1 = 2; waiting 1 0 = 0; deliver 3 1 = 2; waiting 1 3 = 0; more 2 1 = 1; count 1 = 4
+            leave 2 1 = done; first 1 0 = 211; more 2 1 = 0
+            """);
+        Run.of("it isn't in: 2 is, and 0 must wait", """
+            want 2 2 = done; deliver 2 0 = 2; deliver 0 2 = 2; about 2 2 = 2; want 2 0 = done; deliver 0 2 = 2
+            waiting 2 0 = 0; more 2 2 = 2; leave 2 2 = done; first 2 0 = 210; waiting 2 0 = 1; more 2 2 = 0
+            """);
+        Run.of("it isn't in: 3 is, and 1 must wait", """
+            want 2 3 = done; deliver 3 1 = 2; deliver 1 0 = 2; deliver 0 1 = 2; deliver 1 3 = 2; about 2 3 = 2
+            want 2 1 = done; deliver 1 3 = 2; waiting 3 1 = 0; more 2 3 = 3; leave 2 3 = done; first 3 1 = 210
+            """);
+        Run.of("it isn't in: 0 is in no more, while another one is", """
+            want 2 0 = done; leave 2 0 = done; want 2 1 = done; deliver 1 0 = 2; deliver 0 1 = 2; about 2 1 = 2
+            leave 2 1 = done; want 2 3 = done; deliver 3 1 = 2; first 1 3 = 210; more 2 1 = 3
+            """);
         Run.of("it isn't in: it never was", "want 2 2 = done; deliver 2 0 = 2; first 0 2 = 210; more 2 0 = 2");
         Run.of("it isn't in: it was, and is idle", """
             want 2 0 = done; leave 2 0 = done; want 2 2 = done; deliver 2 0 = 2; first 0 2 = 210; more 2 0 = 2

@@ -66,6 +66,10 @@ public final class EdgeTokenTest {
         run.calls("deliver 1 3 = 1; waiting 3 1 = 1; deliver 1 3 = 1; waiting 3 1 = 1; about 1 1 = 0");
         run.calls("want 1 1 = done; more 1 1 = 3; deliver 1 3 = 1; waiting 3 1 = 2");
         run.calls("deliver 3 1 = 1; first 3 1 = 110; deliver 3 1 = 1; about 1 1 = 2");
+        oldRequests("REQUEST: only what the keeper itself has heard of counts").calls("""
+            leave 1 3 = done; want 1 1 = done; more 1 1 = 3; deliver 1 0 = 1; deliver 1 2 = 1; waiting 1 3 = 3
+            deliver 1 3 = 1; waiting 3 1 = 1; deliver 1 3 = 1; waiting 3 1 = 1; deliver 1 3 = 1; waiting 3 1 = 2
+            """);
         Run.of("REQUEST: 1 where DONE is 0", "want 1 3 = done; deliver 3 0 = 1; first 0 3 = 110");
     }
 
